@@ -707,7 +707,8 @@ public final class BellWords {
             for (int stroke = 0; stroke < tower.strokes; stroke++) {
                 int time = tower.times.at(stroke);
                 if (stroke == 0) {
-                    noteFirst();
+                    // The first stroke has no gap, but begins a message as if it had a long one.
+                    cases.put(stroke, NEXT_MESSAGE);
                 } else {
                     noteGap(stroke, time - lastCounted, tower);
                 }
@@ -719,13 +720,6 @@ public final class BellWords {
             }
             letters.settle();
             sumUp();
-        }
-
-        /** The first stroke has no gap, but begins a message as if it had a long one. */
-        private void noteFirst() {
-            gaps.put(0, 0);
-            cases.put(0, NEXT_MESSAGE);
-            doubts.put(0, 0);
         }
 
         private void noteGap(int stroke, int gap, Tower tower) {

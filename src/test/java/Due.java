@@ -19,6 +19,32 @@ final class Due {
         }
     }
 
+    /** A tower with strokes at these times alone. */
+    static BellWords struck(int... times) {
+        BellWords bells = new BellWords();
+        for (int time : times) {
+            bells.strike(time);
+        }
+        return bells;
+    }
+
+    /** Rings letters by their signs, a the first one; "/" sets the pause. */
+    static void ring(BellWords bells, String letters) {
+        for (int i = 0; i < letters.length(); i++) {
+            if (letters.charAt(i) == '/') {
+                bells.pause();
+            } else {
+                bells.ring(letters.charAt(i) - 'a');
+            }
+        }
+    }
+
+    static BellWords rung(String letters) {
+        BellWords bells = new BellWords();
+        ring(bells, letters);
+        return bells;
+    }
+
     static void type(BellWords bells, String text) {
         for (int i = 0; i < text.length(); i++) {
             bells.type(text.charAt(i));
