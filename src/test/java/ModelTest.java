@@ -1,8 +1,7 @@
 /** Long runs of mixed calls, ordinary and wrong ones, on the class and on the model beside it. */
 public final class ModelTest {
     private static final int RUNS = 600;
-    private static final int CALLS = 512;
-    private static final int[] ODD = {
+        private static final int[] ODD = {
         Integer.MIN_VALUE, Integer.MIN_VALUE + 1, -1000001, -100, -2, -1, 0, 1, 2, 4, 5, 6, 7, 24, 25, 26, 59, 60,
         61, 99, 100, 126, 127, 159, 160, 161, 9998, 9999, 10000, 1 << 20, Integer.MAX_VALUE - 1, Integer.MAX_VALUE
     };
@@ -11,7 +10,7 @@ public final class ModelTest {
     };
 
     private static long seed;
-    private static BellWords bells;
+    private static Calls bells;
     private static Model model;
     private static int left;
     private static int run;
@@ -20,9 +19,9 @@ public final class ModelTest {
     public static void main(String[] args) {
         for (run = 0; run < RUNS; run++) {
             seed = 7919L * run + 13;
-            bells = new BellWords();
+            bells = new Calls();
             model = new Model();
-            left = CALLS;
+            left = Calls.MOST;
             while (left > 0) {
                 change();
                 for (int i = below(4); i >= 0; i--) {
@@ -50,34 +49,8 @@ public final class ModelTest {
         }
         left--;
         due.is("run " + run + ", " + left + " calls ahead of its end: " + name + "(" + a + ", " + b + ", " + c + ")",
-                answer(name, a, b, c), want);
+                bells.call(name, a, b, c), want);
         return want;
-    }
-
-    private static int answer(String name, int a, int b, int c) {
-        switch (name) {
-            case "set": return bells.set(a, b);
-            case "swap": return bells.swap(a, b);
-            case "ring": return bells.ring(a);
-            case "pause": return bells.pause();
-            case "strike": return bells.strike(a);
-            case "mute": return bells.mute(a);
-            case "shift": return bells.shift(a, b);
-            case "strokeOf": return bells.strokeOf(a, b);
-            case "messageOf": return bells.messageOf(a, b);
-            case "letterOf": return bells.letterOf(a, b, c);
-            case "correction": return bells.correction(a, b, c);
-            case "vote": return bells.vote(a, b);
-            case "read": return bells.read(a);
-            case "tableOf": return bells.tableOf(a);
-            case "count": return bells.count(a);
-            case "undo": return bells.undo();
-            case "type": return bells.type(a);
-            case "clearText": return bells.clearText();
-            case "fault": return bells.fault(a);
-            case "play": return bells.play();
-            default: throw new IllegalArgumentException(name);
-        }
     }
 
     private static int strokes() {
