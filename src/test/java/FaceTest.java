@@ -5,19 +5,23 @@ import java.lang.reflect.Method;
 import java.lang.reflect.Modifier;
 import java.nio.file.Files;
 import java.nio.file.Path;
+import java.util.ArrayList;
 import java.util.Arrays;
 import java.util.List;
 import java.util.TreeSet;
+import java.util.regex.Matcher;
+import java.util.regex.Pattern;
 
-/** The public face, its constants, and what LANGUAGE.md rules out of the source. */
+/** The public face, its constants, and what of the rules in LANGUAGE.md a test can see. */
 public final class FaceTest {
     private static final List<String> FACE = Arrays.asList("clearText()", "correction(int,int,int)", "count(int)",
             "fault(int)", "letterOf(int,int,int)", "messageOf(int,int)", "mute(int)", "pause()", "play()",
             "read(int)", "ring(int)", "set(int,int)", "shift(int,int)", "strike(int)", "strokeOf(int,int)",
             "swap(int,int)", "tableOf(int)", "type(int)", "undo()", "vote(int,int)");
     private static final List<String> RULED_OUT = Arrays.asList("throw", "throws", "try", "catch", "finally",
-            "synchronized", "assert", "import", "package", "Exception", "Error", "System.exit", "System.out", "->",
-            "::");
+            "synchronized", "assert", "import", "package", "Exception", "Error", "System.exit", "System.out", "java",
+            "->", "::");
+    private static final List<String> MATH = Arrays.asList("min", "max", "abs", "floorDiv", "floorMod");
 
     public static void main(String[] args) throws IOException {
         Due due = new Due();
@@ -30,6 +34,7 @@ public final class FaceTest {
         methods(due);
         members(due);
         source(due);
+        sizes(due);
         due.end();
     }
 
@@ -75,13 +80,51 @@ public final class FaceTest {
         due.is("at most twelve classes", BellWords.class.getDeclaredClasses().length + 1 <= 12 ? 1 : 0, 1);
     }
 
-    private static void source(Due due) throws IOException {
+    /** The class without what its comments say. */
+    private static String code() throws IOException {
         String source = Files.readString(Path.of("src/main/java/BellWords.java"));
-        String code = source.replaceAll("(?s)/\\*.*?\\*/", " ").replaceAll("//[^\n]*", " ");
+        return source.replaceAll("(?s)/\\*.*?\\*/", " ").replaceAll("//[^\n]*", " ");
+    }
+
+    private static void source(Due due) throws IOException {
+        String code = code();
         for (String word : RULED_OUT) {
             boolean isWord = Character.isLetter(word.charAt(0));
             String pattern = ".*" + (isWord ? "\\b" + word.replace(".", "\\.") + "\\b" : word) + ".*";
             due.is("the source has " + word, code.replace('\n', ' ').matches(pattern) ? 1 : 0, 0);
+        }
+        // As nothing is imported, a class of the library could only stand there by its simple name.
+        TreeSet<String> classes = new TreeSet<>(Arrays.asList("BellWords", "Math"));
+        for (Class<?> inside : BellWords.class.getDeclaredClasses()) {
+            classes.add(inside.getSimpleName());
+        }
+        Matcher name = Pattern.compile("\\b[A-Z]\\w*[a-z]\\w*").matcher(code);
+        while (name.find()) {
+            due.is("the source names " + name.group(), classes.contains(name.group()) ? 1 : 0, 1);
+        }
+        Matcher function = Pattern.compile("\\bMath\\.(\\w+)").matcher(code);
+        while (function.find()) {
+            due.is("Math has " + function.group(1), MATH.contains(function.group(1)) ? 1 : 0, 1);
+        }
+    }
+
+    private static void sizes(Due due) throws IOException {
+        List<Class<?>> all = new ArrayList<>(Arrays.asList(BellWords.class.getDeclaredClasses()));
+        all.add(BellWords.class);
+        for (Class<?> each : all) {
+            int fields = 0;
+            for (Field field : each.getDeclaredFields()) {
+                fields += Modifier.isStatic(field.getModifiers()) ? 0 : 1;
+            }
+            due.is(each + " has at most twenty fields", fields <= 20 ? 1 : 0, 1);
+            for (Method method : each.getDeclaredMethods()) {
+                due.is(method + " has at most seven parameters", method.getParameterCount() <= 7 ? 1 : 0, 1);
+            }
+        }
+        Matcher method = Pattern.compile("(?ms)^( {4}| {8})(\\w[^\n;=]*\\) \\{)$.*?^\\1\\}$").matcher(code());
+        while (method.find()) {
+            boolean isShort = method.group().split("\n").length <= 60;
+            due.is(method.group(2) + " has at most sixty lines", isShort ? 1 : 0, 1);
         }
     }
 }

@@ -1,7 +1,7 @@
 /** Long runs of mixed calls, ordinary and wrong ones, on the class and on the model beside it. */
 public final class ModelTest {
     private static final int RUNS = 600;
-        private static final int[] ODD = {
+    private static final int[] ODD = {
         Integer.MIN_VALUE, Integer.MIN_VALUE + 1, -1000001, -100, -2, -1, 0, 1, 2, 4, 5, 6, 7, 24, 25, 26, 59, 60,
         61, 99, 100, 126, 127, 159, 160, 161, 9998, 9999, 10000, 1 << 20, Integer.MAX_VALUE - 1, Integer.MAX_VALUE
     };
